@@ -19,9 +19,10 @@ final class Due {
     private Due() {
     }
 
-    // The path of the document is the first argument of a test that tells sentences.
+    // The path of the document is the first argument of a test that tells sentences;
+    // without the document they are not compared with it.
     static void document(String[] args) throws IOException {
-        if (args.length > 0) {
+        if (args.length > 0 && Files.isReadable(Path.of(args[0]))) {
             document = Files.readString(Path.of(args[0])).replaceAll("\\s+", " ");
         }
     }

@@ -446,7 +446,8 @@ public final class EndEdgeTests {
     }
 
     private static void countsOfStates() {
-        Due.says("8: paths; 9: on their way; 10: at their ends; 11: gone to infinity; 12: lost");
+        Due.says("8: paths; 9: on their way; 10: at their ends; 11: gone to infinity; 12: lost; 13: at their ends, and meet no path with"
+            + " a lower number;");
         PathTracker t = Due.of("x^2-y", "y^2-y");
         t.track(0, 200);
         t.track(1, 200);

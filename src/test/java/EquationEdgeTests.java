@@ -142,6 +142,8 @@ public final class EquationEdgeTests {
 
     // Each beginning with each character behind it.
     private static void whatCanStand() {
+        Due.says("text = [ \"-\" ] term { ( \"+\" | \"-\" ) term } term = ( number [ \"i\" ] | \"i\" | factor ) { factor }"
+            + " factor = ( \"x\" | \"y\" ) [ \"^\" digit ]");
         Due.says("Its fault is the position of the first character that cannot stand at its place when it is read from left to right");
         for (String[] row : WHAT_CAN_STAND) {
             for (char c = 33; c <= 126; c++) {
@@ -358,7 +360,9 @@ public final class EquationEdgeTests {
     }
 
     private static void coefficients() {
-        Due.says("`j`: the exponent of y, 0 to 3 - i");
+        Due.says("An equation is a sum of terms, each a Gaussian integer (its coefficient, parts from -999 to 999) times x to the power"
+            + " of i times y to the power of j, with i + j at most 3.");
+        Due.says("`i`: the exponent of x, 0 to 3 - `j`: the exponent of y, 0 to 3 - i");
         PathTracker t = new PathTracker();
         Due.type(t, "1+2y+3y^2+4y^3+5x+6xy+7xy^2+8x^2+9x^2y+10x^3");
         Due.is("equation(0)", t.equation(0), 3);

@@ -11,6 +11,7 @@ public final class TryEdgeTests {
         Due.document(args);
         numberOfPaths();
         roots();
+        startSystem();
         pathAtItsBegin();
         valuesOfTheSystem();
         gammaOfTheStartSystem();
@@ -25,6 +26,8 @@ public final class TryEdgeTests {
         threeInARow();
         greatestStep();
         rowBeginsAnew();
+        rowBehindAFailedTry();
+        goodTry();
         boundReached();
         boundLeft();
         boundBeforeTheEnd();
@@ -100,6 +103,30 @@ public final class TryEdgeTests {
                 }
             }
         }
+    }
+
+    // The start system is that of the degrees that the equations have now.
+    private static void startSystem() {
+        Due.says("The start system is x to the power of d less 1, and y to the power of e less 1 (as equations).");
+        PathTracker t = tracked("x-2", "y-3", 10);
+        Due.point(t, 0, 2000, 0, 3000, 0);
+        Due.type(t, "x^2-4");
+        t.equation(0);
+        Due.is("trackAll(200)", t.trackAll(200), 0);
+        Due.point(t, 0, 2000, 0, 2999, 0);
+        Due.point(t, 1, -2000, 0, 2999, 0);
+        Due.type(t, "y^3-8");
+        t.equation(1);
+        Due.is("trackAll(200)", t.trackAll(200), 0);
+        Due.point(t, 0, 2000, 0, 2000, 0);
+        Due.point(t, 4, -2000, 0, -1000, 1732);
+        Due.point(t, 5, -2000, 0, -1000, -1731);
+        t.undo();
+        t.undo();
+        Due.is("two paths", t.count(10), 2);
+        t.again(1);
+        Due.is("track(1, 200)", t.track(1, 200), 16);
+        Due.point(t, 1, -2000, 0, 2999, 0);
     }
 
     private static void pathAtItsBegin() {
@@ -286,6 +313,33 @@ public final class TryEdgeTests {
         Due.path(t, 0, 0, 427, 3, 2, 10, 42, 171, 3511, 0, -44, 0, 3511);
         t.track(0, 1);
         Due.path(t, 0, 0, 469, 4, 2, 10, 42, 171, 6448, 0, -37, 0, 6448);
+    }
+
+    // Eight good tries, two of them since the step was doubled, and one that fails.
+    private static void rowBehindAFailedTry() {
+        Due.says("If it fails, all stays, but the row begins anew with 0");
+        PathTracker t = Due.of("x^2+y^2-5", "xy-2");
+        t.track(2, 8);
+        Due.path(t, 2, 0, 832, 8, 0, 10, 128, 128, -745, -654, 2448, -253, 3990);
+        t.track(2, 1);
+        Due.path(t, 2, 0, 832, 8, 1, 10, 64, 128, -745, -654, 2448, -253, 3990);
+        t.track(2, 1);
+        Due.path(t, 2, 0, 896, 9, 1, 10, 64, 128);
+        t.track(2, 1);
+        Due.path(t, 2, 0, 960, 10, 1, 10, 64, 128);
+        t.track(2, 1);
+        Due.path(t, 2, 1, 1024, 11, 1, 10, 128, 128, 1000, 0, 2000, 0, 2);
+    }
+
+    private static void goodTry() {
+        Due.says("If the try is good, the point is the new one, T is T + h, and it was one good step more in a row");
+        PathTracker t = tracked("x-5", "y-1", 1, PLAIN);
+        Due.path(t, 0, 0, 256, 1, 0, 10, 256, 256, 2000, 0, 1000, 0, 3000);
+        t.track(0, 3);
+        Due.path(t, 0, 1, 1024, 4, 0, 10, 256, 256, 5000, 0, 1000, 0, 0);
+        // The slopes of y - 3 by x, and of x - 3 by y, are 0: (x - 1) * 3 + (y - 3) is 0.
+        PathTracker turned = tracked("y-3", "x-3", 1, PLAIN);
+        Due.path(turned, 0, 0, 256, 1, 0, 10, 256, 256, 1500, 0, 1500, 0, 1500);
     }
 
     private static void boundReached() {
