@@ -5,6 +5,7 @@ import java.io.IOException;
 public final class CallEdgeTests {
     public static void main(String[] args) throws IOException {
         Due.document(args);
+        rootsAlongPaths();
         constants();
         whatIsAChange();
         whatIsNoChange();
@@ -32,8 +33,36 @@ public final class CallEdgeTests {
         Due.end("CallEdgeTests");
     }
 
+    private static void rootsAlongPaths() {
+        Due.says("Roots of two equations in x and y, found along paths: equations read from a text, a start system by their degrees,"
+            + " complex numbers in whole numbers of two precisions, paths that are followed by a predictor and a corrector in steps"
+            + " that are halved until the corrections shrink and doubled again, paths that go to infinity or are lost, ends that"
+            + " meet, paths that are followed again with shorter steps, orders of ends, undo, and saved states.");
+        PathTracker t = Due.of("x^2+y^2-5", "xy-2");
+        Due.is("four paths", t.save(0), 4);
+        Due.is("none is left on its way", t.trackAll(200), 0);
+        // (-2, -1), (-1, -2), (1, 2) and (2, 1), to a thousandth or two.
+        int[][] roots = {{-2000, -1000}, {-1000, -2000}, {1000, 2000}, {2000, 1000}};
+        for (int k = 0; k < 4; k++) {
+            int path = t.endAt(k);
+            Due.is("x", Math.abs(t.path(path, 7) - roots[k][0]) <= 2 ? 1 : 0, 1);
+            Due.is("y", Math.abs(t.path(path, 9) - roots[k][1]) <= 2 ? 1 : 0, 1);
+            Due.is("x.im and y.im", Math.abs(t.path(path, 8)) + Math.abs(t.path(path, 10)) <= 2 ? 1 : 0, 1);
+            Due.is("the values there", t.path(path, 11) <= 10 ? 1 : 0, 1);
+        }
+        int second = t.endAt(1);
+        int tries = t.path(second, 2) + t.path(second, 3);
+        Due.is("again", t.again(second), 64);
+        Due.is("shorter steps are more of them", t.track(second, 200) > tries ? 1 : 0, 1);
+        Due.is("the same end", t.endAt(1), second);
+        t.restore(0);
+        Due.is("on their way again", t.count(9), 4);
+        t.undo();
+        Due.is("at their ends again", t.count(10), 4);
+    }
+
     private static void constants() {
-        Due.says("`INVALID_ARGUMENT = -2000000001`: An argument is out of its range, or there is no such equation, path or slot.");
+        Due.says("The constants: `INVALID_ARGUMENT = -2000000001`: An argument is out of its range, or there is no such equation, path or slot.");
         Due.is("INVALID_ARGUMENT", PathTracker.INVALID_ARGUMENT, -2000000001);
         Due.says("`NOT_POSSIBLE = -2000000002`: The call is not possible in the present state.");
         Due.is("NOT_POSSIBLE", PathTracker.NOT_POSSIBLE, -2000000002);
@@ -545,7 +574,7 @@ public final class CallEdgeTests {
     }
 
     private static void calls512() {
-        Due.says("An object is used for at most 512 calls after it has been made");
+        Due.says("An object is used for at most 512 calls after it has been made; what later calls answer is free.");
         PathTracker t = Due.of("x^3-2", "y^3-x");
         // 12 calls until now, and 125 times 4.
         for (int k = 0; k < 125; k++) {

@@ -24,6 +24,7 @@ public final class EndEdgeTests {
         againFromEachState();
         againRefused();
         pathRange();
+        whatIsToldOfAPath();
         pathValues();
         next();
         nextOfNone();
@@ -238,6 +239,22 @@ public final class EndEdgeTests {
         }
     }
 
+    // Each one of the numbers another one: a path at the precision 18, one at its begin.
+    private static void whatIsToldOfAPath() {
+        Due.says("Returns something of a path. - `what`: 0: its state; 1: T; 2: tries that were good; 3: tries that failed;"
+            + " 4: the precision; 5: the step; 6: the greatest step; 7 to 10: x.re, x.im, y.re, y.im in thousandths;");
+        PathTracker t = Due.of("xy-1", "xy+x-1");
+        t.track(0, 24);
+        int[] want = {0, 1022, 15, 9, 18, 32, 128, 127, -144, 3437, 3927};
+        for (int what = 0; what < want.length; what++) {
+            Due.is("path(0, " + what + ")", t.path(0, what), want[what]);
+        }
+        Due.says("Returns the number; INVALID_ARGUMENT.");
+        Due.path(t, 3, 0, 0, 0, 0, 10, 64, 128, -1000, 0, -1000, 0, 1000);
+        Due.is("path(4, 0)", t.path(4, 0), Due.INVALID);
+        Due.is("path(0, 12)", t.path(0, 12), Due.INVALID);
+    }
+
     // The values are those of the equations, at any T, not those of the system.
     private static void pathValues() {
         Due.says("11: the greater one of the sizes of the values of both equations at its point, in thousandths");
@@ -250,7 +267,8 @@ public final class EndEdgeTests {
     }
 
     private static void next() {
-        Due.says("of those on their way that with the least T, of several that with the least step, of several the lowest number");
+        Due.says("Finds the path that should be followed next: of those on their way that with the least T, of several that with the"
+            + " least step, of several the lowest number.");
         PathTracker t = Due.of("x^2-1", "y^2-1");
         Due.is("all are equal", t.next(), 0);
         t.track(0, 1);
@@ -296,7 +314,8 @@ public final class EndEdgeTests {
     }
 
     private static void endsInOrder() {
-        Due.says("in the order of the ends: by x.re, then x.im, y.re, y.im in thousandths, then by the number");
+        Due.says("Returns a path that is at its end, in the order of the ends: by x.re, then x.im, y.re, y.im in thousandths, then by"
+            + " the number. - `index`: 0 for the first one, and so on");
         order(ended("x^2-1", "y"), 1, 0);
         order(ended("x", "y^2+1"), 1, 0);
         // x.re before x.im: (1000, 0), (-500, 866), (-500, -866).
@@ -347,7 +366,8 @@ public final class EndEdgeTests {
     }
 
     private static void settings() {
-        Due.says("0 START (1 to 256; 64), 1 MAX (1 to 256; 128), 2 ROUNDS (1 to 6; 3), 3 TOLERANCE (1 to 64; 4), 4 BOUND (2 to 500; 100),"
+        Due.says("Sets a setting. This is a change. - `what`: 0 to 7 - `value`: a value in its range");
+        Due.says("(In parentheses: range; first value.) 0 START (1 to 256; 64), 1 MAX (1 to 256; 128), 2 ROUNDS (1 to 6; 3), 3 TOLERANCE (1 to 64; 4), 4 BOUND (2 to 500; 100),"
             + " 5 NEAR (0 to 1000; 10), 6 and 7 GAMMA, its parts (-16 to 16; 3 and 2; not both 0).");
         for (int what = 0; what < 8; what++) {
             PathTracker t = new PathTracker();
@@ -431,7 +451,9 @@ public final class EndEdgeTests {
     }
 
     private static void countRange() {
-        Due.says("15: the length of the text; 16: states in the history; 17, 18: the degree of the equation 0, 1");
+        Due.says("Returns a number. - `what`: 0 to 7: the setting; 8: paths; 9: on their way; 10: at their ends;");
+        Due.says("15: the length of the text; 16: states in the history; 17, 18: the degree of the equation 0, 1"
+            + " Returns the number; INVALID_ARGUMENT.");
         PathTracker t = Due.of("x^2-1", "xy^2-1");
         Due.type(t, "x+");
         int[] want = {64, 128, 3, 4, 100, 10, 3, 2, 6, 6, 0, 0, 0, 0, 0, 2, 2, 2, 3};

@@ -36,6 +36,8 @@ public final class EquationEdgeTests {
         equationRefused();
         coefficients();
         powers();
+        values();
+        slopes();
         orderOfTerms();
         Due.end("EquationEdgeTests");
     }
@@ -102,12 +104,12 @@ public final class EquationEdgeTests {
     }
 
     private static void lengthOfText() {
-        Due.says("A text has at most 60 characters.");
+        Due.says("Appends a character to the text.");
         PathTracker t = new PathTracker();
+        Due.says("Returns the length of the text; INVALID_ARGUMENT; LIMIT_REACHED if it has 60 characters.");
         for (int k = 1; k <= 60; k++) {
             Due.is("character " + k, t.type(k % 2 == 1 ? 'x' : '+'), k);
         }
-        Due.says("LIMIT_REACHED if it has 60 characters.");
         Due.is("character 61", t.type('y'), Due.LIMIT);
         Due.is("it was not appended", t.count(15), 60);
         t.wipe();
@@ -127,7 +129,7 @@ public final class EquationEdgeTests {
     }
 
     private static void wipe() {
-        Due.says("Returns the length that it had.");
+        Due.says("Empties the text. Returns the length that it had.");
         PathTracker t = new PathTracker();
         Due.is("an empty text", t.wipe(), 0);
         t.type('x');
@@ -144,7 +146,8 @@ public final class EquationEdgeTests {
     private static void whatCanStand() {
         Due.says("text = [ \"-\" ] term { ( \"+\" | \"-\" ) term } term = ( number [ \"i\" ] | \"i\" | factor ) { factor }"
             + " factor = ( \"x\" | \"y\" ) [ \"^\" digit ]");
-        Due.says("Its fault is the position of the first character that cannot stand at its place when it is read from left to right");
+        Due.says("Its fault is the position of the first character that cannot stand at its place when it is read from left to right,"
+            + " or its length if it ends too early (also if it is empty).");
         for (String[] row : WHAT_CAN_STAND) {
             for (char c = 33; c <= 126; c++) {
                 String text = row[0] + c;
@@ -178,7 +181,7 @@ public final class EquationEdgeTests {
     }
 
     private static void faultOfWhatStands() {
-        Due.says("Returns its position; NOT_FOUND if it has none.");
+        Due.says("Tells the fault of the text. Returns its position; NOT_FOUND if it has none.");
         for (String text : new String[] {"x", "-x", "0", "i", "7", "xyx", "x^3", "3-3", "2ixy^2-5+x"}) {
             PathTracker t = new PathTracker();
             Due.type(t, text);
@@ -323,7 +326,8 @@ public final class EquationEdgeTests {
     }
 
     private static void degreeThatIsZero() {
-        Due.says("NOT_POSSIBLE if the text has a fault, or the degree would be 0 (also if all coefficients would be 0).");
+        Due.says("Returns its degree; INVALID_ARGUMENT; NOT_POSSIBLE if the text has a fault, or the degree would be 0"
+            + " (also if all coefficients would be 0).");
         String[] refused = {
             "5", "i", "-999i", "0", "000", "0x^3", "0i", "x-x", "ix-ix", "3-3", "x^2y-yx^2", "999x+x-999x", "7-x+x", "0x+0y",
             "", "-", "x+", "x^", "x^0", "xxxx", "1234x", "?", "+x", "x^2y^2"
@@ -349,8 +353,8 @@ public final class EquationEdgeTests {
             Due.is("equation(" + odd + ")", t.equation(odd), Due.INVALID);
         }
         Due.same("it changes nothing", Due.seen(t), before);
-        Due.says("Makes the text an equation, and empties it. This is a change.");
-        Due.is("equation(1)", t.equation(1), 2);
+        Due.says("Makes the text an equation, and empties it. This is a change. - `equation`: 0 or 1");
+        Due.is("its degree", t.equation(1), 2);
         Due.is("the text", t.count(15), 0);
         Due.is("the history", t.count(16), 1);
         Due.is("the empty text is no equation", t.equation(1), Due.IMPOSSIBLE);
@@ -362,7 +366,6 @@ public final class EquationEdgeTests {
     private static void coefficients() {
         Due.says("An equation is a sum of terms, each a Gaussian integer (its coefficient, parts from -999 to 999) times x to the power"
             + " of i times y to the power of j, with i + j at most 3.");
-        Due.says("`i`: the exponent of x, 0 to 3 - `j`: the exponent of y, 0 to 3 - i");
         PathTracker t = new PathTracker();
         Due.type(t, "1+2y+3y^2+4y^3+5x+6xy+7xy^2+8x^2+9x^2y+10x^3");
         Due.is("equation(0)", t.equation(0), 3);
@@ -379,7 +382,8 @@ public final class EquationEdgeTests {
                 Due.is("im of " + i + ", " + j, t.coefficient(1, i, j, 1), there ? number : Due.INVALID);
             }
         }
-        Due.says("`part`: 0: re; 1: im");
+        Due.says("Returns a part of a coefficient. - `equation`: 0 or 1 - `i`: the exponent of x, 0 to 3 - `j`: the exponent of y, 0 to 3 - i"
+            + " - `part`: 0: re; 1: im Returns the part; INVALID_ARGUMENT.");
         Due.is("part -1", t.coefficient(0, 0, 0, -1), Due.INVALID);
         Due.is("part 2", t.coefficient(0, 0, 0, 2), Due.INVALID);
         Due.is("equation -1", t.coefficient(-1, 0, 0, 0), Due.INVALID);
@@ -395,7 +399,7 @@ public final class EquationEdgeTests {
 
     // Values at the begin of the path 2, x = -1 and y = 1, but for the last ones.
     private static void powers() {
-        Due.says("a power is 1 (the parts U and 0) for the exponent 0, the number for 1, the product of the number and itself for 2,"
+        Due.says("The value of an equation at (x, y): a power is 1 (the parts U and 0) for the exponent 0, the number for 1, the product of the number and itself for 2,"
             + " the product of this and the number for 3");
         String[] texts = {"x^2+5", "x^2-5x", "x^2-5xy", "7x^2-x", "7x^2-8+y"};
         int[] values = {6000, 6000, 6000, 8000, 0};
@@ -412,9 +416,64 @@ public final class EquationEdgeTests {
         // x times y to the power of 2 is (-511, -884).
         PathTracker other = Due.of("x^3-1", "999xy^2+498+862i+y^3");
         Due.is("(484, -429)", other.path(5, 11), 472);
-        Due.says("(the other one alone if an exponent is 0; 1 if both are)");
+        Due.says("the power of x times the power of y (the other one alone if an exponent is 0; 1 if both are)");
         PathTracker both = Due.of("5+x-5y", "x-5+5y");
         Due.is("5 + 1 - 5, and 1 - 5 + 5", both.path(0, 11), 1000);
+    }
+
+    private static void value(String text, int path, int size) {
+        Due.is("value of " + text, Due.of(text, "y^2-1").path(path, 11), size);
+    }
+
+    // Of equations of the degree 2 with y * y - 1, the path 2 begins at (-1, 1), and the
+    // path 1 at (1, -1).
+    private static void values() {
+        Due.says("is taken times the coefficient, and added to the sum, which is 0 at first.");
+        value("7iy+xx-1", 2, 7000);
+        value("xx-1+6", 2, 6000);
+        value("2+3i-4x+5iy+x^2", 2, 8000);
+        value("9-4x+5iy+x^2", 2, 14000);
+        value("3x+8y-x^2-ixy", 2, 4000);
+        value("3x+8y-x^2-ixy", 1, 6000);
+        value("3ix+8iy+x^2-ixy", 2, 6000);
+        value("3ix+8iy+x^2-ixy", 1, 4000);
+        value("5xy-5ixy+y^2", 2, 5000);
+        value("5xy-6ixy-y^2", 2, 6000);
+        value("x^2+y^2-2+0xy", 2, 0);
+        // The path 3 of two equations of the degree 3 begins at ((-1/2, s), 1): s is 886
+        // units, 999 times this is 885114, and y to the power of 3 less 1 is 0.
+        Due.is("999 s", Due.of("x^3-1", "999x+y^3-1").path(3, 11), 864369);
+    }
+
+    private static void slope(String text, int size, int x) {
+        String turned = text.replace('x', 'z').replace('y', 'x').replace('z', 'y');
+        int[] plain = {6, 1, 7, 0, 0, 256, 1, 256, 2, 1, 3, size};
+        PathTracker t = Due.with(text, "y-1", plain);
+        t.track(0, 1);
+        Due.path(t, 0, 0, 256, 1, 0, 10, 256, 256, x, 0, 1000, 0);
+        PathTracker y = Due.with("x-1", turned, plain);
+        y.track(0, 1);
+        Due.path(y, 0, 0, 256, 1, 0, 10, 256, 256, 1000, 0, x, 0);
+        plain[11] = size - 1;
+        PathTracker less = Due.with(text, "y-1", plain);
+        less.track(0, 1);
+        Due.path(less, 0, 0, 0, 0, 1, 10, 128, 256, 1000, 0, 1000, 0);
+    }
+
+    // The predictor comes to 1.25, or 1280 units, and from there the corrector takes the
+    // value of the system by its slope, by hand: 64 by 1.25, 64 by 2.5, 208 by 4.6875,
+    // -16 by 2.125, 108 by 4.1406, 28 by 3.7656, 152 by 4.2188. With x and y exchanged it
+    // is the slope by y.
+    private static void slopes() {
+        Due.says("Its slope by x is the value of the equation of the terms with the coefficient i times as great (not held to 999)"
+            + " and the exponent i - 1 instead of i, for all i from 1 on, in the same order; its slope by y likewise with j.");
+        slope("2x-3", 51, 1200);
+        slope("x^2-3", 25, 1225);
+        slope("x^3-4", 44, 1207);
+        slope("xy-3", 7, 1256);
+        slope("x^2y-4", 26, 1224);
+        slope("xy^2-4", 7, 1243);
+        slope("3x^2y-x^3-5", 36, 1214);
     }
 
     // Held sums, or roundings, that are others in another order.

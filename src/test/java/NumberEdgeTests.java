@@ -19,6 +19,7 @@ public final class NumberEdgeTests {
         differenceIsHeld();
         gaussianIsHeld();
         productIsHeld();
+        quotients();
         quotientIsHeld();
         quotientThatIsNotThere();
         precisions();
@@ -120,7 +121,7 @@ public final class NumberEdgeTests {
     }
 
     private static void sumOfManyIsHeld() {
-        Due.says("sums, differences and the negative are by parts, held");
+        Due.says("With the parts re and im: ```text sums, differences and the negative are by parts, held;");
         Due.is("the im part alone", sharp("999i+999iy+999iy^2+999iy^3+999ix-999ixy+5").path(0, 11), 3097000);
         // Held behind each term, in the order of the terms.
         Due.is("4096 - 999 + 999", sharp("999+999y+999y^2+999y^3+999x-999xy+999x^2").path(0, 11), 4096000);
@@ -158,6 +159,19 @@ public final class NumberEdgeTests {
         Due.path(other, 0, 0, 64, 1, 0, 10, 64, 128, -2990, 2660, 6003, -3335, 154243286);
     }
 
+    // With GAMMA 3 + 2 i x - 14 moves x by 13 / 4 / (3 + 2 i), to (1.75, -0.5), and the
+    // corrector to (5.75 + 1.5 i) / (2.5 + 1.5 i), which is (1.9559, -0.5735).
+    private static void quotients() {
+        Due.says("the quotient of a by b has, with n = (b.re * b.re + b.im * b.im) / U, the parts"
+            + " (a.re * b.re + a.im * b.im) / n and (a.im * b.re - a.re * b.im) / n, held;");
+        PathTracker t = tracked("x-14", "y-1", 0, 1, 0, 256, 1, 256);
+        Due.path(t, 0, 0, 256, 1, 0, 10, 256, 256, 1955, -573, 1000, 0);
+        PathTracker down = tracked("x-14", "y-1", 0, 1, 0, 256, 1, 256, 7, -2);
+        Due.path(down, 0, 0, 256, 1, 0, 10, 256, 256, 1955, 573, 1000, 0);
+        PathTracker y = tracked("x-1", "y+12", 0, 1, 0, 256, 1, 256);
+        Due.path(y, 0, 0, 256, 1, 0, 10, 256, 256, 1000, 0, 44, 573);
+    }
+
     private static void quotientIsHeld() {
         Due.says("(a.re * b.re + a.im * b.im) / n and (a.im * b.re - a.re * b.im) / n, held");
         PathTracker t = Due.with("ixy", "x-1", 2, 5);
@@ -187,7 +201,8 @@ public final class NumberEdgeTests {
     }
 
     private static void precisions() {
-        Due.says("P is the precision, 10 or 18; U is 2 to the power of P");
+        Due.says("A number is complex: it has two parts, which are whole numbers of 2 to the power of minus P"
+            + " (P is the precision, 10 or 18; U is 2 to the power of P).");
         PathTracker t = Due.with("999x^3+999", "y-1", SHARP);
         // (-512, 886) to the power of 3 is (1021, 1) units of the precision 10; times
         // 256 first it is (261605, 310) units of the precision 18, 1021.9 of the others.

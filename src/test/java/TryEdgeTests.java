@@ -17,7 +17,10 @@ public final class TryEdgeTests {
         gammaOfTheStartSystem();
         lastStep();
         stepsOfOne();
+        linearEquations();
         predictor();
+        differenceInThePredictor();
+        shareInThePredictor();
         rounds();
         tolerance();
         halfIsEnough();
@@ -88,7 +91,7 @@ public final class TryEdgeTests {
     }
 
     private static void roots() {
-        Due.says("1 for the degree 1; 1 and -1 for 2; 1, (-1/2, s) and (-1/2, -s) for 3, where 1/2 is U / 2,"
+        Due.says("The roots of 1 are, in this order: 1 for the degree 1; 1 and -1 for 2; 1, (-1/2, s) and (-1/2, -s) for 3, where 1/2 is U / 2,"
             + " and s is 866025404 * U / 1000000000.");
         int[][] re = {{1000}, {1000, -1000}, {1000, -500, -500}};
         int[][] im = {{0}, {0, 0}, {0, 865, -865}};
@@ -155,7 +158,7 @@ public final class TryEdgeTests {
     }
 
     private static void gammaOfTheStartSystem() {
-        Due.says("and G those of the start system times the Gaussian integer of the settings GAMMA");
+        Due.says("Let F be the values of the equations, and G those of the start system times the Gaussian integer of the settings GAMMA.");
         // x moves by (G - F) * 64 / 1024 / GAMMA: 64 units for GAMMA 1, to 960 and 937.5 thousandths.
         Due.point(tracked("x", "y", 1, 6, 1, 7, 0), 0, 937, 0, 937, 0);
         // -1: from 1024 to 1092 units, as x is 1 + T / (1024 - 2 T).
@@ -197,10 +200,20 @@ public final class TryEdgeTests {
         Due.path(t, 0, 1, 1024, 1024, 0, 10, 1, 1, 0, 0, 0, 0);
     }
 
+    // At T = 256 the slopes a, b, c, d are 1, 0.5, 0.75 and 0.5, D is 0.125; in the others
+    // 1, 0.5 i, i and 0.5, and 1. All quotients are whole: the corrector comes to the root.
+    private static void linearEquations() {
+        Due.says("Two linear equations a * u + b * v = r, c * u + d * v = s are solved by the determinant D = a * d - b * c,"
+            + " u = (r * d - b * s) / D, v = (a * s - r * c) / D; there is no solution if a quotient is not there.");
+        Due.path(tracked("x+2y-9", "3x-y-7", 1, PLAIN), 0, 0, 256, 1, 0, 10, 256, 256, 2000, 0, 2000, 0, 3000);
+        Due.path(tracked("-x+3y-7", "2x+y-9", 1, PLAIN), 0, 0, 256, 1, 0, 10, 256, 256, 2000, 0, 2000, 0, 3000);
+        Due.path(tracked("x+2iy-1", "4ix-y+3-12i", 1, PLAIN), 0, 0, 256, 1, 0, 10, 256, 256, 2000, 0, 0, 2000, 6000);
+    }
+
     // x * x - 4: from 1024 units by 3 * 256 / 2 = 384 to 1408; the corrector's sizes
     // are 52 and 1, then 0.
     private static void predictor() {
-        Due.says("its linear equations are solved for the right sides (G - F) * h / 1024 (by parts); the solution is added to the point.");
+        Due.says("1. Predictor: with the slopes of the system at T, its linear equations are solved for the right sides (G - F) * h / 1024 (by parts); the solution is added to the point.");
         good("without a predictor it is not 52", tracked("x^2-4", "y-1", 1, and(PLAIN, 2, 1, 3, 52)), 256, 1324);
         // A right side of 249.5 is a step to 250.5 at once: the corrector has nothing to do.
         Due.point(tracked("x-999", "y", 1, and(PLAIN, 2, 1, 3, 1, 4, 500)), 0, 250500, 0, 750, 0);
@@ -212,12 +225,38 @@ public final class TryEdgeTests {
         Due.path(t, 1, 0, 1016, 12, 8, 18, 64, 128, 106, 307, 93, 318);
     }
 
+    // Before the second try the im parts of G and F, in units, are 29782250 and -1073741824:
+    // the difference, 1103524074, is held to 1073741824, and a fourth of it is 268435456.
+    private static void differenceInThePredictor() {
+        Due.says("sums, differences and the negative are by parts, held;");
+        Due.says("for the right sides (G - F) * h / 1024 (by parts)");
+        PathTracker t = tracked("918xy^2", "-x^3-333ix", 2, 0, 256, 1, 256);
+        Due.path(t, 0, 0, 512, 2, 0, 10, 256, 256, -15653, 11768, 5288, 7390, 1048576000);
+        PathTracker other = Due.with("195y^2", "765x^2y", and(PLAIN, 4, 500));
+        other.track(1, 2);
+        Due.path(other, 1, 0, 512, 2, 0, 10, 256, 256, 13139, 21089, 31432, 56099, 1048576000);
+        PathTracker third = tracked("626ixy", "394x^2y+57y^2", 6, 6, 1, 7, 0);
+        Due.path(third, 0, 0, 104, 3, 3, 10, 8, 128, 1000, -19562, -6695, 0, 1009439077);
+    }
+
+    // Before the second try G - F is -5693 and 25571981 units: the product of the latter
+    // one and 64 is above what is held, a sixteenth of it is 1598248.
+    private static void shareInThePredictor() {
+        Due.says("for the right sides (G - F) * h / 1024 (by parts)");
+        PathTracker t = tracked("8x", "-909xy", 1, 6, 1, 7, 0);
+        Due.path(t, 0, 0, 64, 1, 0, 10, 64, 128, 651, 0, 39539, 0, 23410300);
+        t.track(0, 1);
+        Due.path(t, 0, 0, 64, 1, 1, 10, 32, 128, 651, 0, 39539, 0, 23410300);
+        Due.path(tracked("590xy^2", "-966xy", 2), 0, 0, 128, 2, 0, 10, 64, 128, -1835, 1890, 7965, -4643, 126862099);
+    }
+
     private static void rounds() {
-        Due.says("2. Corrector: at the place T + h, at most as many times as the setting ROUNDS");
+        Due.says("2. Corrector: at the place T + h, at most as many times as the setting ROUNDS: the linear equations with the slopes"
+            + " and the negative values of the system there are solved, and the solution is added to the point.");
         good("52, in 1 round", tracked("x^2-4", "y-1", 1, and(PLAIN, 2, 1, 3, 52)), 256, 1324);
         failed("52, in 1 round", tracked("x^2-4", "y-1", 1, and(PLAIN, 2, 1, 3, 51)), 128);
         good("1, in 2 rounds", tracked("x^2-4", "y-1", 1, and(PLAIN, 2, 2, 3, 51)), 256, 1323);
-        Due.says("If no time was good, the try fails");
+        Due.says("If no time was good, the try fails; it fails, too, if linear equations have no solution.");
         // x * x + 3: from 512 units to 0, the sizes are 256, 128, 64, 32, 16 and 0.
         failed("32, in 4 rounds", tracked("x^2+3", "y-1", 1, and(PLAIN, 2, 4, 3, 31)), 128);
         failed("16, in 5 rounds", tracked("x^2+3", "y-1", 1, and(PLAIN, 2, 5, 3, 15)), 128);
@@ -464,11 +503,12 @@ public final class TryEdgeTests {
     }
 
     private static void trackCounts() {
-        Due.says("Follows a path: tries are made until it is not on its way any more, or as many were made.");
+        Due.says("Follows a path: tries are made until it is not on its way any more, or as many were made. This is a change.");
         PathTracker t = new PathTracker();
         Due.is("as many", t.track(0, 1), 1);
         Due.is("as many", t.track(0, 8), 8);
         Due.is("until it is at its end", t.track(0, 2), 1);
+        Due.is("each one is a change", t.count(16), 3);
         PathTracker exact = new PathTracker();
         Due.is("both", exact.track(0, 10), 10);
         Due.is("at its end", exact.path(0, 0), 1);
@@ -500,7 +540,7 @@ public final class TryEdgeTests {
     }
 
     private static void trackAllCounts() {
-        Due.says("Follows all paths that are on their way, one after the other, each as by track().");
+        Due.says("Follows all paths that are on their way, one after the other, each as by track(). This is a change.");
         PathTracker t = Due.of("x^2-1", "y^2-1");
         t.track(2, 200);
         Due.is("three are on their way", t.trackAll(9), 3);
